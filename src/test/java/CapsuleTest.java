@@ -11,6 +11,7 @@ final class CapsuleTest {
         open();
         reasonsInOrder();
         lowestSharesTell();
+        eachSavesOnce();
         Checks.finish("CapsuleTest");
     }
 
@@ -66,6 +67,8 @@ final class CapsuleTest {
         Checks.due("open again", c.count(3), 2);
         Checks.due("dealings back", c.count(8), 1);
         Checks.due("told by the curves of before", c.told(4), 9);
+        Checks.due("the date is back", c.count(5), 0);
+        Checks.due("the quorum is back", c.count(4), 1);
     }
 
     private static void renew() {
@@ -223,5 +226,30 @@ final class CapsuleTest {
         c.die(0);
         Checks.due("0's share is asked with 3's", c.why(8), 6);
         Checks.due("0's and 1's shares are asked", c.why(10), 0);
+    }
+
+    private static void eachSavesOnce() {
+        CapsuleKeepers c = Checks.withKeepers(1);
+        long sealing = c.digest();
+        c.seal(8, 1, 1);
+        long renewal = c.digest();
+        c.renew();
+        long forging = c.digest();
+        c.forge(0, 9);
+        long passing = c.digest();
+        c.pass(1);
+        long opening = c.digest();
+        c.open(1);
+        Checks.due("saved states", c.count(11), 6);
+        Checks.due("undo of open()", c.undo(), 5);
+        Checks.due("before open()", c.digest(), opening);
+        Checks.due("undo of pass()", c.undo(), 4);
+        Checks.due("before pass()", c.digest(), passing);
+        Checks.due("undo of forge()", c.undo(), 3);
+        Checks.due("before forge()", c.digest(), forging);
+        Checks.due("undo of renew()", c.undo(), 2);
+        Checks.due("before renew()", c.digest(), renewal);
+        Checks.due("undo of seal()", c.undo(), 1);
+        Checks.due("before seal()", c.digest(), sealing);
     }
 }

@@ -78,16 +78,15 @@ final class RulesTest {
     }
 
     private static void lengths(String whole) {
-        int begin = 0;
-        int number = 0;
-        for (String line : whole.split("\n")) {
-            number++;
-            if (line.matches("(    |        )[a-zA-Z].*\\(.*\\{")) {
-                begin = number;
-            }
-            if (line.equals("    }") || line.equals("        }")) {
-                Checks.due("the method that begins at line " + begin + " is short",
-                    number - begin <= 60 || line.equals("    }") ? 1 : 0, 1);
+        String[] lines = whole.split("\n");
+        for (int begin = 0; begin < lines.length; begin++) {
+            Matcher m = Pattern.compile("^((?:    ){1,2})\\w[^=]*\\(.*\\{$").matcher(lines[begin]);
+            if (m.find()) {
+                int end = begin;
+                while (!lines[end].equals(m.group(1) + "}")) {
+                    end++;
+                }
+                Checks.due("short: " + lines[begin].trim(), end - begin <= 60 ? 1 : 0, 1);
             }
         }
     }

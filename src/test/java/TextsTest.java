@@ -123,6 +123,9 @@ final class TextsTest {
         Checks.due("day then", c.count(2), 109);
         Checks.due("t98;t765", Checks.liveBy(c, "t98;t765"), 2);
         Checks.due("day at last", c.count(2), 972);
+        Checks.due("t1 after a longer text", Checks.liveBy(c, "t1"), 1);
+        Checks.due("nothing of the longer text", c.count(2), 973);
+        c.undo();
         c.undo();
         Checks.due("both are undone", c.count(2), 109);
         c.undo();

@@ -75,6 +75,11 @@ final class WouldBeTest {
         dueAll("one who owns nothing joins", c, 1, 8, 4, 8);
         c.heir(3, 4);
         dueAll("who would inherit", c, 1, 8, 4, 0);
+        CapsuleKeepers high = Checks.withKeepers(4);
+        high.seal(5, 2, 0);
+        high.heir(2, 3);
+        high.die(2);
+        dueAll("the smallest has no low mask", high, 1, 8, 5, 0);
     }
 
     private static void needed() {
@@ -144,6 +149,8 @@ final class WouldBeTest {
         eight.seal(1, 2, 0);
         eight.quarrel(7, 6);
         duePeace("the last pair", eight, 6, 7);
+        eight.quarrel(3, 5);
+        duePeace("the lower pair of two", eight, 3, 5);
     }
 
     private static void firstShare() {
@@ -208,6 +215,14 @@ final class WouldBeTest {
         c.die(0);
         digestBy("two thirds", c, "");
         digestOfNoneAtHome();
+        CapsuleKeepers eight = Checks.withKeepers(8);
+        eight.seal(250, 2, 9999);
+        eight.forge(0, (eight.share(0, 0) + 1) % 251);
+        digestBy("the first of eight forged", eight, "");
+        eight.undo();
+        eight.forge(7, (eight.share(7, 0) + 1) % 251);
+        eight.quarrel(2, 6);
+        digestBy("the last of eight forged", eight, "");
     }
 
     private static void digestOfNoneAtHome() {
