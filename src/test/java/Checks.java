@@ -6,6 +6,7 @@ final class Checks {
 
     private static int made = 0;
     private static int wrong = 0;
+    private static String where = "";
 
     interface Call {
         void run();
@@ -14,11 +15,16 @@ final class Checks {
     private Checks() {
     }
 
+    /** What is told ahead of each wrong answer from now on. */
+    static void within(String place) {
+        where = place;
+    }
+
     static void due(String call, long got, long want) {
         made++;
         if (got != want) {
             wrong++;
-            System.out.println(call + " answered " + got + ", due is " + want);
+            System.out.println(where + call + " answered " + got + ", due is " + want);
         }
     }
 
@@ -38,9 +44,34 @@ final class Checks {
         }
         if (got != want) {
             wrong++;
-            System.out.println(call + " threw " + got + ", due is " + want);
+            System.out.println(where + call + " threw " + got + ", due is " + want);
         }
         due(call + ", the state after its exception", capsule.digest(), before);
+    }
+
+    /** The call has to save one state, and undo() has to bring back all that was before it. */
+    static void dueUndoable(String call, CapsuleKeepers capsule, Call body) {
+        int saved = capsule.count(11);
+        long before = capsule.digest();
+        body.run();
+        due(call + ", saved states", capsule.count(11), Math.min(saved + 1, 6));
+        due(call + ", undo()", capsule.undo(), Math.min(saved, 5));
+        if (saved < 6) {
+            due(call + ", the state after undo()", capsule.digest(), before);
+        }
+    }
+
+    /** Fills the saved states up to 6 by calls that change nothing but these; a keeper 0 has to live. */
+    static void saveSix(CapsuleKeepers capsule) {
+        for (int i = 0; i < 6; i++) {
+            capsule.heir(0, capsule.keeperOf(0, 1));
+        }
+    }
+
+    static CapsuleKeepers sealed(int keepers, int key, int quorum, int date) {
+        CapsuleKeepers capsule = withKeepers(keepers);
+        capsule.seal(key, quorum, date);
+        return capsule;
     }
 
     static CapsuleKeepers withKeepers(int keepers) {

@@ -151,14 +151,13 @@ final class LooksTest {
 
     private static void toldByEverySet() {
         for (int quorum = 1; quorum <= 8; quorum++) {
-            CapsuleKeepers c = Checks.withKeepers(8);
-            int key = 31 * quorum;
-            c.seal(key % 251, quorum, 0);
+            int key = 31 * quorum % 251;
+            CapsuleKeepers c = Checks.sealed(8, key, quorum, 0);
+            CapsuleKeepers twin = Checks.sealed(8, key, quorum, 0);
             for (int shares = 0; shares < 256; shares++) {
                 int size = Integer.bitCount(shares);
-                Checks.due("quorum " + quorum + ": told(" + shares + ")", c.told(shares),
-                    size < quorum ? NONE : key % 251);
-                Checks.due("quorum " + quorum + ": possible(" + shares + ")", c.possible(shares),
+                Checks.due("quorum " + quorum + ": told(" + shares + ")", c.told(shares), size < quorum ? NONE : key);
+                Checks.due("quorum " + quorum + ": possible(" + shares + ")", twin.possible(shares),
                     size < quorum ? 251 : 1);
             }
         }

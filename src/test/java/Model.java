@@ -11,6 +11,7 @@ import java.util.regex.Pattern;
 final class Model {
     static final int NONE = -1;
     private static final String ORDER = "(d[0-7]|q[0-7]-[0-7]|h[0-7]>[0-7]|t[1-9][0-9]?[0-9]?|r)";
+    private static final int[] INVERSES = inverses();
     private static final Pattern DAYS = Pattern.compile(ORDER + "(;" + ORDER + ")*");
 
     static final class Keeper {
@@ -426,12 +427,19 @@ final class Model {
     }
 
     private static int inverse(int value) {
+        return INVERSES[value];
+    }
+
+    private static int[] inverses() {
+        int[] found = new int[251];
         for (int i = 1; i < 251; i++) {
-            if (value * i % 251 == 1) {
-                return i;
+            for (int j = 1; j < 251; j++) {
+                if (i * j % 251 == 1) {
+                    found[i] = j;
+                }
             }
         }
-        throw new AssertionError("no inverse");
+        return found;
     }
 
     int told(int shares) {
@@ -547,5 +555,40 @@ final class Model {
             }
         }
         return all == 0 ? 1.0 : home / all;
+    }
+
+    long digest() {
+        List<Long> values = new ArrayList<>();
+        for (int what = 0; what <= 11; what++) {
+            values.add((long) count(what));
+        }
+        for (int keeper = 0; keeper < s.keepers.size(); keeper++) {
+            for (int what = 0; what <= 4; what++) {
+                values.add((long) keeperOf(keeper, what));
+            }
+        }
+        for (int i = 0; i < 8; i++) {
+            for (int what = 0; what <= 2; what++) {
+                values.add((long) share(i, what));
+            }
+        }
+        for (int shares : List.of(7, 14, 56, 255)) {
+            values.add((long) told(shares));
+        }
+        for (int shares : List.of(0, 3, 7, 24, 255)) {
+            values.add((long) possible(shares));
+        }
+        for (int answer : List.of(why((1 << s.keepers.size()) - 1), smallest(0), smallest(1), groups(), needed(),
+                peace(false), peace(true))) {
+            values.add((long) answer);
+        }
+        values.add(Double.doubleToLongBits(firstShare()));
+        values.add((long) buffer.length());
+        buffer.chars().forEach(code -> values.add((long) code));
+        long hash = 3019;
+        for (long value : values) {
+            hash = 31 * hash + value;
+        }
+        return hash;
     }
 }

@@ -11,6 +11,9 @@ import java.util.regex.Pattern;
 /** The rules of LANGUAGE.md that can be seen in the words of the source, texts and comments left out. */
 final class RulesTest {
     private static final Path SOURCE = Path.of("src/main/java/CapsuleKeepers.java");
+    private static final Set<String> THROWN = Set.of("IllegalStateException", "IllegalArgumentException",
+        "IndexOutOfBoundsException", "ArithmeticException", "UnsupportedOperationException",
+        "NoSuchElementException", "RuntimeException");
 
     public static void main(String[] args) throws IOException {
         String whole = Files.readString(SOURCE, StandardCharsets.UTF_8);
@@ -22,10 +25,10 @@ final class RulesTest {
             }
         }
         forbidden(code);
+        exceptions(code);
         library(code);
-        loops(code);
         statics(code);
-        lengths(whole);
+        sizes(whole, code);
         Checks.finish("RulesTest");
     }
 
@@ -35,39 +38,56 @@ final class RulesTest {
     }
 
     private static void forbidden(String code) {
-        for (String word : new String[] {"import", "package", "synchronized", "assert", "finally", "native",
-            "volatile", "transient", "strictfp", "record", "var", "yield", "protected", "equals", "hashCode",
-            "toString", "clone", "getClass", "System", "Object", "Double", "Float", "catch", "try", "null"}) {
+        for (String word : new String[] {"package", "synchronized", "assert", "finally", "native", "volatile",
+            "protected", "hashCode", "getClass", "getMessage", "Object", "Double", "Float", "Random", "Thread"}) {
             absent(code, "\\b" + word + "\\b");
         }
-        absent(code, "->");
+        absent(code, "(?m)^import (?!java\\.util\\.(ArrayList|List|Arrays|Iterator|NoSuchElementException);)");
+        absent(code, "(?m)^(?!\\s*(case|default)\\b).*->");
         absent(code, "::");
         absent(code, "Exact\\b");
-        absent(code, "@");
         absent(code, "static\\s*\\{");
         absent(code, "\"\"\\s*\\+|\\+\\s*\"\"");
+        absent(code, "\\bwhile\\s*\\(\\s*true|\\bfor\\s*\\([^;]*;\\s*;");
+    }
+
+    private static void exceptions(String code) {
+        Matcher m = Pattern.compile("\\bthrow\\s+new\\s+(\\w+)\\(([^;]*)\\);").matcher(code);
+        while (m.find()) {
+            Checks.due("thrown: " + m.group(1), THROWN.contains(m.group(1)) ? 1 : 0, 1);
+            boolean written = m.group(2).isEmpty() || m.group(2).equals("\"\"");
+            Checks.due("a written text alone: " + m.group(), written ? 1 : 0, 1);
+        }
+        absent(code, "\\bthrow\\b(?!\\s+new\\b)");
+        m = Pattern.compile("\\bcatch\\s*\\((?:final\\s+)?([\\w\\s|]+?)\\s+\\w+\\)").matcher(code);
+        while (m.find()) {
+            for (String caught : m.group(1).split("\\s*\\|\\s*")) {
+                Checks.due("caught: " + caught, THROWN.contains(caught) ? 1 : 0, 1);
+            }
+        }
     }
 
     private static void library(String code) {
-        Set<String> known = new HashSet<>(Arrays.asList("Integer.bitCount", "Math.floorMod"));
-        Matcher m = Pattern.compile("\\b([A-Z][a-z]+[A-Za-z]*)\\.(\\w+)").matcher(code);
+        Set<String> own = new HashSet<>(Arrays.asList("StringBuilder", "String", "ArrayList", "int", "long", "short",
+            "byte", "char", "boolean", "double", "float"));
+        own.addAll(THROWN);
+        Matcher m = Pattern.compile("\\b(?:class|record|enum|interface)\\s+(\\w+)").matcher(code);
+        int classes = 0;
         while (m.find()) {
-            Checks.due("the library's " + m.group(), known.contains(m.group()) ? 1 : 0, 1);
+            own.add(m.group(1));
+            classes++;
         }
-        Set<String> made = new HashSet<>(Arrays.asList("int", "Place", "Curves", "Survey", "DaysText",
-            "IllegalStateException", "IllegalArgumentException", "IndexOutOfBoundsException"));
-        m = Pattern.compile("\\bnew (\\w+)").matcher(code);
+        Checks.due("at most some twelve classes", classes <= 13 ? 1 : 0, 1);
+        m = Pattern.compile("\\bnew\\s+(\\w+)").matcher(code);
         while (m.find()) {
-            Checks.due("a new " + m.group(1), made.contains(m.group(1)) ? 1 : 0, 1);
+            Checks.due("a new " + m.group(1), own.contains(m.group(1)) ? 1 : 0, 1);
         }
-    }
-
-    /** What a call makes would be counted: only constructors make rows and objects. */
-    private static void loops(String code) {
-        absent(code, "\\bwhile\\b");
-        absent(code, "for \\(;;");
-        Matcher m = Pattern.compile("\\breturn new\\b").matcher(code);
-        Checks.due("a method makes an object", m.find() ? 1 : 0, 0);
+        m = Pattern.compile("\\b(System|Arrays|List|Objects|Collections|Character|Boolean)\\.(\\w+)").matcher(code);
+        while (m.find()) {
+            boolean listed = Set.of("System.arraycopy", "Arrays.copyOf", "Arrays.copyOfRange", "Arrays.fill", "List.of")
+                .contains(m.group());
+            Checks.due("the library's " + m.group(), listed ? 1 : 0, 1);
+        }
     }
 
     private static void statics(String code) {
@@ -77,16 +97,20 @@ final class RulesTest {
         }
     }
 
-    private static void lengths(String whole) {
+    private static void sizes(String whole, String code) {
+        Matcher m = Pattern.compile("(?m)^ {4,8}[\\w<][^=;\\n]*\\(([^()]*)\\)[^;\\n]*\\{$").matcher(code);
+        while (m.find()) {
+            Checks.due("parameters of " + m.group().trim(), m.group(1).split(",").length <= 7 ? 1 : 0, 1);
+        }
         String[] lines = whole.split("\n");
         for (int begin = 0; begin < lines.length; begin++) {
-            Matcher m = Pattern.compile("^((?:    ){1,2})\\w[^=]*\\(.*\\{$").matcher(lines[begin]);
+            m = Pattern.compile("^((?:    ){1,2})\\w[^=]*\\(.*\\{$").matcher(lines[begin]);
             if (m.find()) {
                 int end = begin;
-                while (!lines[end].equals(m.group(1) + "}")) {
+                while (end < lines.length && !lines[end].equals(m.group(1) + "}")) {
                     end++;
                 }
-                Checks.due("short: " + lines[begin].trim(), end - begin <= 60 ? 1 : 0, 1);
+                Checks.due("short: " + lines[begin].trim(), end - begin <= 65 ? 1 : 0, 1);
             }
         }
     }

@@ -167,9 +167,10 @@ final class TextsTest {
         c.open(1);
         stops(c, "r", 0);
         CapsuleKeepers late = new CapsuleKeepers();
-        for (int i = 0; i < 8; i++) {
-            stops(late, SIXTY.substring(0, 59), 12);
+        for (int i = 0; i < 84; i++) {
+            late.pass(999);
         }
+        stops(late, SIXTY.substring(0, 59), 12);
         Checks.due("the day", late.count(2), 95904);
         stops(late, "t999;t999;t999;t999;t99;t1;t1", 5);
         Checks.due("the last day", late.count(2), 99999);

@@ -182,62 +182,59 @@ final class WouldBeTest {
         Checks.dueDouble("none of two", none.firstShare(), 0.0);
     }
 
-    private static void digestBy(String when, CapsuleKeepers c, String buffer) {
-        Checks.due("digest(): " + when, c.digest(), Digest.of(c, buffer));
-        Checks.due("digest() again: " + when, c.digest(), Digest.of(c, buffer));
+    private interface Step {
+        void on(CapsuleKeepers c);
+    }
+
+    /** Each number of steps on an object of its own: by all values in turn one object would be called too often. */
+    private static void digestBy(String when, String buffer, Step... steps) {
+        for (int done = 0; done <= steps.length; done++) {
+            CapsuleKeepers c = new CapsuleKeepers();
+            Checks.write(c, buffer);
+            for (int i = 0; i < done; i++) {
+                steps[i].on(c);
+            }
+            long first = c.digest();
+            Checks.due("digest(): " + when + ", step " + done, first, Digest.of(c, buffer));
+            Checks.due("digest() again: " + when + ", step " + done, c.digest(), first);
+        }
+    }
+
+    private static void fill(CapsuleKeepers c) {
+        for (int i = 0; i < 8; i++) {
+            c.keeper();
+        }
     }
 
     private static void digest() {
-        CapsuleKeepers c = new CapsuleKeepers();
-        digestBy("new", c, "");
-        Checks.write(c, "!~d");
-        digestBy("a buffer", c, "!~d");
-        for (int i = 0; i < 8; i++) {
-            c.keeper();
-            digestBy("keeper " + i, c, "!~d");
+        digestBy("keepers", "!~d", CapsuleKeepers::keeper, CapsuleKeepers::keeper, CapsuleKeepers::keeper,
+            CapsuleKeepers::keeper, CapsuleKeepers::keeper, CapsuleKeepers::keeper, CapsuleKeepers::keeper,
+            CapsuleKeepers::keeper);
+        digestBy("a capsule", "", WouldBeTest::fill, c -> c.seal(123, 3, 10), c -> c.quarrel(0, 5),
+            c -> c.heir(1, 2), c -> c.die(1), c -> c.die(7), c -> c.forge(4, 9), c -> c.pass(10), c -> c.open(28),
+            c -> c.open(13), c -> c.die(0), CapsuleKeepers::undo);
+        digestBy("forged", "d0", WouldBeTest::fill, c -> c.seal(250, 2, 9999),
+            c -> c.forge(0, (c.share(0, 0) + 1) % 251), CapsuleKeepers::undo,
+            c -> c.forge(7, (c.share(7, 0) + 1) % 251), c -> c.quarrel(2, 6));
+        for (int keepers = 2; keepers < 8; keepers++) {
+            for (int dead = 0; dead < keepers; dead++) {
+                digestOfShares(keepers, dead);
+            }
         }
-        c.seal(123, 3, 10);
-        digestBy("sealed", c, "!~d");
-        c.quarrel(0, 5);
-        c.heir(1, 2);
-        c.die(1);
-        digestBy("seven eighths at home", c, "!~d");
-        c.clearBuffer();
-        c.die(7);
-        digestBy("six sevenths at home", c, "");
-        c.forge(4, 9);
-        c.pass(10);
-        digestBy("forged", c, "");
-        c.open(28);
-        digestBy("a try", c, "");
-        c.open(13);
-        digestBy("open", c, "");
-        c.die(0);
-        digestBy("two thirds", c, "");
-        digestOfNoneAtHome();
-        CapsuleKeepers eight = Checks.withKeepers(8);
-        eight.seal(250, 2, 9999);
-        eight.forge(0, (eight.share(0, 0) + 1) % 251);
-        digestBy("the first of eight forged", eight, "");
-        eight.undo();
-        eight.forge(7, (eight.share(7, 0) + 1) % 251);
-        eight.quarrel(2, 6);
-        digestBy("the last of eight forged", eight, "");
     }
 
-    private static void digestOfNoneAtHome() {
-        for (int keepers = 2; keepers < 8; keepers++) {
-            CapsuleKeepers c = Checks.withKeepers(keepers);
-            c.seal(200, 2, 0);
-            for (int keeper = 0; keeper + 1 < keepers; keeper++) {
-                c.heir(keeper, keepers - 1);
-                c.die(keeper);
-                digestBy(keeper + " of " + keepers + " are dead", c, "");
-            }
+    /** Of some keepers the first ones are dead, and the last one has their shares; or also this one is dead. */
+    private static void digestOfShares(int keepers, int dead) {
+        CapsuleKeepers c = Checks.sealed(keepers, 200, 2, 0);
+        for (int keeper = 0; keeper < dead; keeper++) {
+            c.heir(keeper, keepers - 1);
+            c.die(keeper);
+        }
+        if (dead == keepers - 1) {
             c.keeper();
             c.heir(keepers - 1, keepers);
             c.die(keepers - 1);
-            digestBy("none at home", c, "");
         }
+        Checks.due("digest() of " + keepers + ", dead " + dead, c.digest(), Digest.of(c, ""));
     }
 }
